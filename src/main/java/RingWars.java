@@ -713,6 +713,8 @@ public final class RingWars {
         int cells;
         final int[] items = new int[CELLS_AT_MOST * CELL_ITEMS];
         int sides;
+        /** How many sides have threads. */
+        private int standing;
         int turns;
         /** The side that did the latest turn, or -1. */
         private int mover;
@@ -737,14 +739,15 @@ public final class RingWars {
                 System.arraycopy(EMPTY_CELL, 0, items, cell * CELL_ITEMS, CELL_ITEMS);
             }
             sides = 0;
+            standing = 0;
             turns = 0;
             mover = -1;
-            written = -1;
         }
 
         void become(War other) {
             cells = other.cells;
             sides = other.sides;
+            standing = other.standing;
             turns = other.turns;
             mover = other.mover;
             System.arraycopy(other.items, 0, items, 0, items.length);
@@ -770,6 +773,7 @@ public final class RingWars {
             ends[sides] = NOBODY;
             killers[sides] = NOBODY;
             sides++;
+            standing++;
         }
 
         /** Sets f down at 0, and nobody else. */
@@ -784,8 +788,7 @@ public final class RingWars {
         }
 
         boolean isOver() {
-            int most = sides > 1 ? 1 : 0;
-            return turns >= physics[LIMIT] || Integer.bitCount(living()) <= most;
+            return turns >= physics[LIMIT] || standing <= (sides > 1 ? 1 : 0);
         }
 
         /** Who has threads, as bits. */
@@ -858,6 +861,7 @@ public final class RingWars {
             if (order[KIND] != DIE) {
                 append(perform(a, b));
             } else if (alive[side] == 0) {
+                standing--;
                 ends[side] = turns;
                 killers[side] = owner;
             }

@@ -11,6 +11,7 @@ public final class DuelsTest {
         promise17();
         promise17Refusals();
         promise18And19();
+        eight();
         promise20();
         promise21();
         promise22();
@@ -119,6 +120,8 @@ public final class DuelsTest {
         // it goes on at 2 and its number: with 1 it lives one turn longer than g does with 2, with 3 for ever
         RingWars z = Due.with("copy #2 .2;jump @1;die;jump .1;die;jump .0");
         due.is("against itself as it is", z.tune(0, 0, 0, 0), 1);
+        Due.fighter(z, "jump .0");
+        due.is("against another", z.tune(0, 0, 0, 1), 3);
     }
 
     private static void promise17Refusals() {
@@ -157,6 +160,26 @@ public final class DuelsTest {
         x.physics(0, 8);
         due.is("worth in 8 cells", x.worth(1), 49);
         due.is("no fighters, no ladder", new RingWars().ladder(0), -1);
+        // all are even: 25, 26 and 27 distances in all
+        RingWars y = Due.with("jump .0;die;die", "jump .0;die", "jump .0");
+        due.is("the ladder's first", y.ladder(0), 2);
+        due.is("the ladder's second", y.ladder(1), 1);
+        due.is("the ladder's third", y.ladder(2), 0);
+        due.is("25", y.worth(0), 25);
+        due.is("26", y.worth(1), 26);
+        due.is("27", y.worth(2), 27);
+    }
+
+    private static void eight() {
+        RingWars x = Due.with("die", "jump .0", "jump .0", "jump .0", "jump .0", "jump .0", "jump .0", "jump .0");
+        due.is("the last against the last", x.all(7, 7, 1), 15);
+        due.is("worth of the last", x.worth(7), 45 + 90);
+        due.is("the last on the ladder", x.ladder(7), 0);
+        due.is("the one ahead of it", x.ladder(6), 7);
+        due.is("unlike the last", x.unlike(0, 7), 30 + 7 * 15);
+        due.is("no ring", x.ring(2), -5);
+        due.is("a garden with the last", x.garden(128 + 1, 0), 128);
+        due.is("a garden of the last four", x.garden(0xf0, 0), 0xf0);
     }
 
     private static void promise20() {
@@ -176,6 +199,24 @@ public final class DuelsTest {
         ringIs(1, 3, 2, "die", g, f, h);
         ringIs(0, 1, 2, f, g, h, f, g, h);
         ringIs(0, 3, 1, f, h, h, g, g);
+        noRing("jump .0", "jump .0", "jump .0");
+        // each beats all that die earlier
+        String one = "die";
+        String two = "jump .1;die";
+        String three = "jump .1;jump .1;die";
+        noRing(one, two, three);
+        noRing(one, three, two);
+        noRing(two, one, three);
+        noRing(two, three, one);
+        noRing(three, one, two);
+        noRing(three, two, one);
+    }
+
+    private static void noRing(String... texts) {
+        RingWars x = Due.with(texts);
+        for (int i = 0; i < 3; i++) {
+            due.is("no ring(" + i + ")", x.ring(i), -5);
+        }
     }
 
     private static void ringIs(int f, int g, int h, String... texts) {
@@ -288,6 +329,15 @@ public final class DuelsTest {
         RingWars y = Due.with("split .1;jump .0;jump .0", "copy .0 .0;jump .-1");
         due.is("two threads on one cell", y.round(0), 1);
         due.is("writes that change nothing", y.round(1), 2);
+        RingWars z = Due.with("split .2;jump .0;jump .0", "add #1 #0;jump .-1", "jump .1;jump .0");
+        due.is("two threads by turns", z.round(0), 2);
+        due.is("only its own number goes round", z.round(1), 32);
+        z.physics(0, 32);
+        due.is("in 32 cells", z.round(1), 64);
+        z.physics(1, 3);
+        due.is("as it was behind turn 2", z.round(2), 1);
+        z.physics(1, 2);
+        due.is("and behind turn 1", z.round(2), 1);
     }
 
     private static void promise25() {
@@ -308,12 +358,19 @@ public final class DuelsTest {
         due.is("same(0, 8)", x.same(0, 8), -1);
         due.is("same(-1, 0)", x.same(-1, 0), -1);
         due.is("same(0, -1)", x.same(0, -1), -1);
+        x.physics(1, 2);
+        due.is("LIMIT 2", x.same(5, 0), 2);
         x.physics(1, 1);
         due.is("LIMIT 1", x.same(5, 0), -5);
         RingWars y = Due.with("copy .0 .2;jump .0", "jump .1;jump .0", "copy .0 >1;copy .0 .2", "copy .0 .3;jump .0");
         due.is("the cell that was written last", y.same(2, 3), 2);
         y.physics(3, 1);
         due.is("a write that does nothing is none", y.same(0, 1), -5);
+        RingWars z = Due.with("add #1 .5;add #1 .4;jump .0", "add #1 .5;jump .1;jump .0", "jump .1;jump .1;add #1 .3;jump .0",
+            "jump .1;jump .1;jump .1;jump .0");
+        due.is("a cell that was written in a turn ahead is none", z.same(0, 1), 2);
+        due.is("a cell that was written in a turn ahead is none, too", z.same(1, 0), 2);
+        due.is("a write in turn 3", z.same(2, 3), 3);
     }
 
     private static void warStays() {

@@ -7,6 +7,7 @@ public final class ImageActsTapesTest {
 
     public static void main(String[] args) {
         promise26And27();
+        promise27Died();
         promise27Physics();
         promise27Empty();
         promise28();
@@ -71,6 +72,34 @@ public final class ImageActsTapesTest {
         due.is("its side", Due.threads(x, 0), "3");
         due.is("sides", x.count(5), 1);
         due.is("set() without turns", x.set(1, 14), 1);
+    }
+
+    private static void promise27Died() {
+        RingWars x = Due.with("jump .0", "jump .1;die");
+        x.set(0, 0);
+        x.set(0, 2);
+        x.set(1, 4);
+        x.run(3);
+        x.image();
+        x.run(5);
+        due.is("dead", x.died(2, 0), 6);
+        x.back();
+        due.is("alive again", x.died(2, 0), -5);
+        due.is("without a killer", x.died(2, 1), -5);
+        x.run(5);
+        x.image();
+        x.clear();
+        for (int side = 0; side < 4; side++) {
+            x.set(0, side);
+        }
+        due.is("alive in another war", x.died(2, 0), -5);
+        due.is("back()", x.back(), 8);
+        due.is("sides", x.count(5), 3);
+        due.is("dead again", x.died(2, 0), 6);
+        due.is("by itself", x.died(2, 1), 2);
+        due.is("no threads", x.thread(2, -1), 0);
+        x.run(1);
+        due.is("turns", x.state(0), 9);
     }
 
     private static void promise27Physics() {
@@ -316,6 +345,12 @@ public final class ImageActsTapesTest {
         due.is("to another", x.shift(0, 2, 3, 1, 3), 3);
         due.is("the other", rowOf(x, 3), "0 4 5 6");
         due.is("this one", rowOf(x, 0), "2 3 4 5 6 6");
+        for (int sort = 0; sort <= 4; sort++) {
+            row(x, 1, sort, 3);
+            x.tape(2, sort, 2);
+            due.is("of sort " + sort, x.shift(1, 1, 2, 0, 2), 2);
+            due.is("its items", rowOf(x, 2), sort == 4 ? "1 1" : "2 3");
+        }
         due.is("none", x.shift(0, 6, 3, 4, 0), 0);
         due.is("all", x.shift(3, 0, 3, 0, 4), 4);
         due.is("the other still", rowOf(x, 3), "0 4 5 6");

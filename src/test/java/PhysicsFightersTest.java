@@ -14,6 +14,7 @@ public final class PhysicsFightersTest {
         promise4Names();
         promise4Faults();
         promise4NameFaults();
+        promise4BehindAFault();
         promise4Full();
         promise5();
         promise5Refusals();
@@ -203,6 +204,8 @@ public final class PhysicsFightersTest {
         fault("ifx", 2);
         fault("jump", 4);
         fault("jump;", 4);
+        fault("jump.0", 4);
+        fault("jump !0", 5);
         fault("jump ", 5);
         fault("jump  .0", 5);
         fault("jump 0", 5);
@@ -257,6 +260,19 @@ public final class PhysicsFightersTest {
         fault("jump .b;dye", 9);
         fault("jump .b;", 8);
         fault("die;die;die;die;die;die;die;jump .b", 34);
+    }
+
+    private static void promise4BehindAFault() {
+        RingWars x = new RingWars();
+        due.is("a fault", Due.fighter(x, "a:copy .5 <7;add #8 >a;jump .9!"), -10 - 30);
+        due.is("a fighter behind it", Due.fighter(x, "die;a:jump .1"), 0);
+        due.is("orders", x.of(0, -1, 0), 2);
+        due.is("order 0", Due.order(x, 0, 0), "0 4 0 4 0");
+        due.is("order 1", Due.order(x, 0, 1), "3 0 1 4 0");
+        due.is("a bad tape", Due.loaded(x, 1, 1, 1, 1, 1, 9, 1, 1, 1, 1), -2);
+        due.is("a fighter behind it", Due.fighter(x, "die"), 1);
+        due.is("its orders", x.of(1, -1, 0), 1);
+        due.is("its order", Due.order(x, 1, 0), "0 4 0 4 0");
     }
 
     private static void promise4Full() {

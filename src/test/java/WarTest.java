@@ -236,6 +236,9 @@ public final class WarTest {
         x.run(4);
         due.is("heat of 5 again", x.cell(5, 6), 2);
         due.is("the greatest", x.state(2), 5);
+        due.is("heat of 1 alone", stepped("add #1 .1;die").state(2), 1);
+        due.is("heat of 15 alone", stepped("add #1 .-1").state(2), 15);
+        due.is("heat of 0 alone", stepped("add #1 .0").state(2), 0);
         due.is("state(4)", x.state(4), -1);
         due.is("state(-1)", x.state(-1), -1);
     }
