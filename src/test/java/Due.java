@@ -67,9 +67,15 @@ final class Due {
         }
     }
 
+    /** Feeds four bytes a call: an object is good for 512 calls. */
     static void feed(RingWars x, String text) {
-        for (int i = 0; i < text.length(); i++) {
-            x.feed(text.charAt(i), 1);
+        for (int at = 0; at < text.length(); at += 4) {
+            int n = Math.min(4, text.length() - at);
+            int bytes = 0;
+            for (int k = 0; k < n; k++) {
+                bytes = bytes << 8 | text.charAt(at + k);
+            }
+            x.feed(bytes, n);
         }
     }
 
@@ -110,7 +116,8 @@ final class Due {
     /** All cells. */
     static String ring(RingWars x) {
         StringBuilder all = new StringBuilder();
-        for (int cell = 0; cell < x.count(0); cell++) {
+        int cells = x.count(0);
+        for (int cell = 0; cell < cells; cell++) {
             all.append(cell == 0 ? "" : ", ").append(cell(x, cell));
         }
         return all.toString();

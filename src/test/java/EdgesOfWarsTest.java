@@ -49,27 +49,29 @@ public final class EdgesOfWarsTest {
         due.by("each a FIGHTER whose ORDERS are set down from a CELL on (their OWNER it is then), with one thread on the first");
         for (int cells : SIZES) {
             for (int length = 1; length <= 8; length++) {
-                StringBuilder text = new StringBuilder("add #1 #0");
-                for (int i = 1; i < length; i++) {
-                    text.append(";add #1 #").append(i);
-                }
-                RingWars x = new RingWars();
-                x.physics(0, cells);
-                Due.fighter(x, text.toString());
                 for (int at = cells - length; at < cells; at++) {
-                    x.clear();
-                    due.is("set(0, " + at + ")", x.set(0, at), 0);
-                    due.is("its thread", Due.threads(x, 0), "" + at);
-                    for (int i = 0; i < length; i++) {
-                        due.is("order " + i + " of " + length + " from " + at + " on in " + cells,
-                            Due.cell(x, (at + i) % cells), "2 4 1 4 " + i % cells + " 0 0");
-                    }
-                    if (length < cells) {
-                        due.is("the cell behind", Due.cell(x, (at + length) % cells), EMPTY);
-                        due.is("the cell ahead", Due.cell(x, (at + cells - 1) % cells), EMPTY);
-                    }
+                    setDown(cells, length, at);
                 }
             }
+        }
+    }
+
+    private static void setDown(int cells, int length, int at) {
+        StringBuilder text = new StringBuilder("add #1 #0");
+        for (int i = 1; i < length; i++) {
+            text.append(";add #1 #").append(i);
+        }
+        RingWars x = Due.with(text.toString());
+        x.physics(0, cells);
+        due.is("set(0, " + at + ")", x.set(0, at), 0);
+        due.is("its thread", Due.threads(x, 0), "" + at);
+        for (int i = 0; i < length; i++) {
+            due.is("order " + i + " of " + length + " from " + at + " on in " + cells, Due.cell(x, (at + i) % cells),
+                "2 4 1 4 " + i + " 0 0");
+        }
+        if (length < cells) {
+            due.is("the cell behind", Due.cell(x, (at + length) % cells), EMPTY);
+            due.is("the cell ahead", Due.cell(x, (at + cells - 1) % cells), EMPTY);
         }
     }
 

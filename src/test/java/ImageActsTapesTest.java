@@ -7,6 +7,7 @@ public final class ImageActsTapesTest {
 
     public static void main(String[] args) {
         promise26And27();
+        promise27Again();
         promise27Died();
         promise27Physics();
         promise27Empty();
@@ -24,19 +25,8 @@ public final class ImageActsTapesTest {
         due.end();
     }
 
-    private static String all(RingWars x) {
-        StringBuilder all = new StringBuilder();
-        for (int cell = 0; cell < x.count(0); cell++) {
-            all.append(Due.cell(x, cell)).append(", ");
-        }
-        for (int side = 0; side < x.count(5); side++) {
-            all.append(Due.threads(x, side)).append(' ').append(x.died(side, 0)).append(' ').append(x.died(side, 1));
-            all.append("; ");
-        }
-        return all.append(x.state(0)).append(' ').append(x.state(1)).toString();
-    }
-
-    private static void promise26And27() {
+    /** A war of three of which the image was taken behind 8 turns. */
+    private static RingWars pictured() {
         RingWars x = Due.with("split .2;copy .-1 >7;add #1 .-1;jump .-3", "jump .0", "die");
         due.is("back() without an image", x.back(), -3);
         due.is("image() of no war", x.image(), 0);
@@ -50,20 +40,32 @@ public final class ImageActsTapesTest {
         x.set(1, 10);
         x.run(8);
         due.is("image() in war", x.image(), 8);
-        String then = all(x);
+        return x;
+    }
+
+    private static void promise26And27() {
+        RingWars x = pictured();
+        String then = Due.war(x);
         x.run(5);
-        String later = all(x);
+        String later = Due.war(x);
         due.is("it went on", then.equals(later) ? 1 : 0, 0);
         due.is("back()", x.back(), 8);
-        due.is("all is as then", all(x), then);
         x.run(5);
-        due.is("and goes on as then", all(x), later);
+        due.is("and goes on as then", Due.war(x), later);
+    }
+
+    private static void promise27Again() {
+        RingWars x = pictured();
+        String then = Due.war(x);
+        x.run(5);
+        due.is("back()", x.back(), 8);
+        due.is("all is as then", Due.war(x), then);
+        x.run(5);
         due.is("back() again", x.back(), 8);
-        due.is("the image stays", all(x), then);
         due.is("set() with turns done", x.set(1, 14), -3);
         x.clear();
         due.is("back() after clear()", x.back(), 8);
-        due.is("the war is again", all(x), then);
+        due.is("the war is again", Due.war(x), then);
         x.clear();
         x.set(1, 3);
         due.is("another image", x.image(), 0);
