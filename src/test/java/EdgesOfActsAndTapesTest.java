@@ -19,9 +19,12 @@ public final class EdgesOfActsAndTapesTest {
         actsWrap();
         actsOfEmptyCells();
         actsOfNoSuchNumber();
+        bodiesOfTheNextKindAbove();
+        bodiesFromTheLeft();
         tracesOfAllKinds();
         tracesKeepTheFirst();
         tracesOfNoSuchNumber();
+        kindsAreUnderOthers();
         takenByKind();
         takenOfNoSuchNumber();
         takenNamesTheFirst();
@@ -41,6 +44,7 @@ public final class EdgesOfActsAndTapesTest {
         shiftsOfHugeNumbers();
         shiftsOfUnlikeSorts();
         shiftsNameTheFirst();
+        theHostsRefusals();
         due.end();
     }
 
@@ -261,6 +265,34 @@ public final class EdgesOfActsAndTapesTest {
         }
     }
 
+    /** A cell of a KIND at 3, whose NUMBER B is 2, has acted with 10. */
+    private static String traceOf(int kind, int act) {
+        RingWars x = new RingWars();
+        Due.loaded(x, kind, 0, 0, 0, 2);
+        x.set(0, 3);
+        int answer = x.act(3, act, 10);
+        return answer + ": " + Due.trace(x);
+    }
+
+    private static void bodiesOfTheNextKindAbove() {
+        due.by("reads(..) and so on: the body of its KIND, or, if that has none, of the next KIND above that has one; "
+            + "super.reads(..): so from the KIND above the body's on");
+        due.is("SPLIT's reads in DIE's does", traceOf(6, 1), "-34: 71 11 70 40 10");
+        due.is("JUMP's reads in DIE's does, of IFZ", traceOf(4, 1), "-15: 11 40 10");
+        due.is("COPY's does in DIE's ends, of COPY", traceOf(1, 2), "28: 12 20 11 10");
+        due.is("ADD's super.reads is DIE's, past COPY", traceOf(2, 1), "19: 30 20 11 10 10");
+        due.is("ADD's super.ends is DIE's, past COPY", traceOf(2, 2), "40: 31 12 30 20 11 10 10");
+        due.is("IFZ's super.ends is DIE's, past JUMP", traceOf(4, 2), "15: 50 11 40 10 12 11 40 10");
+        due.is("SKIP has no reads of its own", traceOf(5, 0), "13: 10");
+    }
+
+    private static void bodiesFromTheLeft() {
+        due.by("all that stands in a body is done from the left on");
+        due.is("does, then reads", traceOf(2, 1), "19: 30 20 11 10 10");
+        due.is("does, then ends", traceOf(4, 2), "15: 50 11 40 10 12 11 40 10");
+        due.is("ends, then reads", traceOf(5, 2), "26: 60 12 11 10 10");
+    }
+
     private static void tracesOfAllKinds() {
         due.by("THE TRACE: the numbers of the bodies that ran in the latest act(), as they began");
         RingWars x = new RingWars();
@@ -312,6 +344,25 @@ public final class EdgesOfActsAndTapesTest {
         due.is("the last", x.trace(2), 10);
         x.act(0, 0, 0);
         due.is("a shorter one", x.trace(0) + " " + x.trace(1), "10 -1");
+    }
+
+    private static void kindsAreUnderOthers() {
+        due.by("KINDS: 0 DIE; 1 COPY under DIE; 2 ADD under COPY; 3 JUMP under DIE; 4 IFZ under JUMP; 5 SKIP under DIE; "
+            + "6 SPLIT under JUMP.");
+        String[] words = {"die", "copy .0 .0", "add .0 .0", "jump .0", "ifz .0 .0", "skip .0 .0", "split .0"};
+        int[] above = {0, 0, 1, 0, 3, 0, 3};
+        for (int kind = 0; kind <= 6; kind++) {
+            RingWars x = Due.with(words[kind]);
+            x.set(0, 15);
+            due.is("the KIND of " + words[kind], x.cell(15, 0), kind);
+            due.is("for itself", x.taken(15, kind), kind);
+            due.is("for the one above", x.taken(15, above[kind]), kind);
+            for (int under = 0; under <= 6; under++) {
+                if (under != kind && above[under] == kind) {
+                    due.is("for one under it", x.taken(15, under), under == 0 ? kind : CAST);
+                }
+            }
+        }
     }
 
     private static void takenByKind() {
@@ -695,5 +746,19 @@ public final class EdgesOfActsAndTapesTest {
         due.is("nothing ahead of places", x.shift(0, -1, 3, 9, 9), NOTHING);
         due.is("sorts ahead of places", x.shift(0, -1, 1, 9, 9), CAST);
         due.is("places at last", x.shift(0, -1, 0, 9, 9), PLACE);
+    }
+
+    private static void theHostsRefusals() {
+        due.by("The host's refusals: NOTHING (-11): nothing is there; CAST (-12): another sort or KIND; PLACE (-13): no such "
+            + "place; SIZE (-14): a size below 0.");
+        RingWars x = new RingWars();
+        x.tape(0, 0, 1);
+        due.is("nothing on a tape", x.item(1, 0, 0), -11);
+        due.is("nothing at a cell", x.taken(16, 0), -11);
+        due.is("another sort", x.load(0, 0, 1), -12);
+        due.is("another KIND", x.taken(0, 1), -12);
+        due.is("no such place", x.item(0, 1, 0), -13);
+        due.is("a size below 0", x.tape(0, 0, -1), -14);
+        due.is("a size of 0", x.tape(0, 0, 0), 1);
     }
 }

@@ -21,6 +21,7 @@ public final class EdgesOfDuelsTest {
         allIsTheSumOfDuels();
         allOfNoSuchNumber();
         beatsAboveZero();
+        leftOut();
         keys();
         keysOfNoSuchNumber();
         tunesFromZeroToTheLast();
@@ -28,23 +29,28 @@ public final class EdgesOfDuelsTest {
         tunesAgainstItself();
         tunesOfNoSuchNumber();
         worthOfOneAndOfEight();
+        worthOfNoSuchNumber();
         ladderOfLikeOnes();
         ladderOfNoSuchNumber();
         ringsOfFewerThanThree();
         ringsAsARow();
         unlikeItself();
+        unlikeOfNoSuchNumber();
         gardensOfTwoToFour();
         gardensCut();
         gardensOfNoSuchSet();
         sturdyByNumbers();
         sturdyAtTheLimit();
+        sturdyOfNoSuchNumber();
         roundsByStates();
         roundsWithinTheLimit();
         roundsOfTheDead();
+        roundsOfNoSuchNumber();
         sameWithinTheLimit();
         sameBeyondReach();
         sameByTheLastWrite();
         sameOfTheDead();
+        sameOfNoSuchNumber();
         theWarStays();
         due.end();
     }
@@ -216,6 +222,19 @@ public final class EdgesOfDuelsTest {
         due.is("even, too", z.key(0, 1), NOBODY);
     }
 
+    private static void leftOut() {
+        due.by("LEFT OUT: a FIGHTER one of whose ORDERS is empty.");
+        // whoever's first ORDER is empty dies in its first turn: no other can be the first KEY
+        String[] texts = {"jump .0", "jump .1;jump .-1", "split .1;jump .0;jump .-1", "copy .0 .1"};
+        String[] leftOut = {"die", "die;jump .-1", "die;jump .0;jump .-1", "die"};
+        for (int i = 0; i < texts.length; i++) {
+            RingWars x = Due.with(texts[i], "die", leftOut[i]);
+            due.is("the key of " + texts[i], x.key(0, 1), 0);
+            due.is("left out it is beaten everywhere", x.all(2, 1, 2), 16 - x.of(2, -1, 0));
+            due.is("the fighter stays", x.of(0, 0, 0) == 0 ? 1 : 0, 0);
+        }
+    }
+
     private static void keys() {
         due.by("KEY: the first ORDER of f with which left out f doesn't beat g (-5: none, or f doesn't beat g as it is).");
         RingWars x = Due.with("jump .0;die;die;die;die;die;die;die", "die", "jump .0", BEATS_ITSELF);
@@ -353,10 +372,17 @@ public final class EdgesOfDuelsTest {
             }
             due.is("worth(" + f + ") of eight", x.worth(f), want);
         }
-        due.is("no ninth", x.worth(8), RingWars.NONE);
+    }
+
+    private static void worthOfNoSuchNumber() {
+        due.by("WORTH. NONE.");
+        RingWars x = Due.with("jump .0", "die", "jump .0");
         for (int f : NO_FIGHTERS) {
+            due.is("worth(" + f + ") of three", x.worth(f), RingWars.NONE);
             due.is("worth(" + f + ") of none", new RingWars().worth(f), RingWars.NONE);
         }
+        due.is("the first", x.worth(0), 60);
+        due.is("the last", x.worth(2), 60);
     }
 
     private static void ladderOfLikeOnes() {
@@ -477,12 +503,17 @@ public final class EdgesOfDuelsTest {
         }
         due.is("unlike itself", x.unlike(7, 7), 0);
         due.is("alone", Due.with("die").unlike(0, 0), 0);
-        due.is("no ninth", x.unlike(8, 0), RingWars.NONE);
-        RingWars y = Due.with("die", "jump .0", "die");
+    }
+
+    private static void unlikeOfNoSuchNumber() {
+        due.by("UNLIKE. NONE.");
+        RingWars x = Due.with("die", "jump .0", "die");
         for (int f : NO_FIGHTERS) {
-            due.is("unlike(" + f + ", 0)", y.unlike(f, 0), RingWars.NONE);
-            due.is("unlike(0, " + f + ")", y.unlike(0, f), RingWars.NONE);
+            due.is("unlike(" + f + ", 0)", x.unlike(f, 0), RingWars.NONE);
+            due.is("unlike(0, " + f + ")", x.unlike(0, f), RingWars.NONE);
+            due.is("unlike(" + f + ", " + f + ")", x.unlike(f, f), RingWars.NONE);
         }
+        due.is("the last two", x.unlike(1, 2), 75);
     }
 
     private static void gardensOfTwoToFour() {
@@ -595,16 +626,22 @@ public final class EdgesOfDuelsTest {
             }
         }
         due.is("sturdy of eight that jump", Due.with("jump .0" + ";jump .0".repeat(7)).sturdy(0), 16);
-        RingWars x = Due.with("jump .0", "die", "jump .99");
+        RingWars x = Due.with("jump .99");
+        for (int cells = 8; cells <= 32; cells++) {
+            x.physics(0, cells);
+            // it lives where it jumps to itself: 100 is CELLS some times over, or 99 (with B one more) is
+            int want = (100 % cells == 0 ? 1 : 0) + (99 % cells == 0 ? 1 : 0);
+            due.is("99 one more in " + cells, x.sturdy(0), want);
+        }
+    }
+
+    private static void sturdyOfNoSuchNumber() {
+        due.by("STURDY. NONE.");
+        RingWars x = Due.with("jump .0", "die", "jump .0");
         for (int f : NO_FIGHTERS) {
             due.is("sturdy(" + f + ")", x.sturdy(f), RingWars.NONE);
         }
-        for (int cells = 8; cells <= 32; cells++) {
-            x.physics(0, cells);
-            // 100 is a rest of 0 in 10, 20 and 25 cells; B does nothing, and 99 is none of 0 in 9 and 11
-            int want = (100 % cells == 0 ? 1 : 0) + (99 % cells == 0 ? 1 : 0);
-            due.is("99 one more in " + cells, x.sturdy(2), want);
-        }
+        due.is("the last", x.sturdy(2), 1);
     }
 
     private static void sturdyAtTheLimit() {
@@ -677,10 +714,16 @@ public final class EdgesOfDuelsTest {
             x.physics(1, 3);
             due.is("LIMIT 3: p 2", x.round(2), 2);
         }
-        RingWars x = Due.with("jump .0", "die", "jump .0");
+    }
+
+    private static void roundsOfNoSuchNumber() {
+        due.by("ROUND; -5. NONE.");
+        RingWars x = Due.with("jump .0", "die", "jump .1;jump .-1");
         for (int f : NO_FIGHTERS) {
             due.is("round(" + f + ")", x.round(f), RingWars.NONE);
         }
+        due.is("none", x.round(1), NOBODY);
+        due.is("the last", x.round(2), 2);
     }
 
     private static void roundsOfTheDead() {
@@ -708,10 +751,18 @@ public final class EdgesOfDuelsTest {
             due.is("no writes", x.same(1, 2), NOBODY);
             due.is("itself", x.same(0, 0), NOBODY);
         }
+    }
+
+    private static void sameOfNoSuchNumber() {
+        due.by("SAME DEEDS; -5. NONE.");
+        RingWars x = Due.with("jump .0", "die", "jump .1;jump .-1");
         for (int f : NO_FIGHTERS) {
             due.is("same(" + f + ", 0)", x.same(f, 0), RingWars.NONE);
             due.is("same(0, " + f + ")", x.same(0, f), RingWars.NONE);
+            due.is("same(" + f + ", " + f + ")", x.same(f, f), RingWars.NONE);
         }
+        due.is("none", x.same(0, 2), NOBODY);
+        due.is("the last two", x.same(1, 2), 1);
     }
 
     private static void sameBeyondReach() {

@@ -13,7 +13,9 @@ public final class EdgesOfFightersTest {
     private static final Due due = new Due();
 
     public static void main(String[] args) {
+        theConstants();
         anEmptyObject();
+        physicsThatWere();
         textsOf150Bytes();
         ordersAreNoneOrTooMany();
         namesOutsideAToF();
@@ -36,6 +38,7 @@ public final class EdgesOfFightersTest {
         fightersWhenFull();
         loadsOfOneToEight();
         loadsAtBothEnds();
+        loadsOfNumbers();
         loadsOfOrdersThatAreNone();
         loadsNameTheFirst();
         lengthsOfFighters();
@@ -63,6 +66,16 @@ public final class EdgesOfFightersTest {
         return "die;".repeat(n - 1) + "die";
     }
 
+    private static void theConstants() {
+        due.by("Answers: NONE (-1) no such number; BAD (-2) a number is not as told; STATE (-3) as told; FULL (-4)");
+        due.is("NONE", RingWars.NONE, -1);
+        due.is("BAD", RingWars.BAD, -2);
+        due.is("STATE", RingWars.STATE, -3);
+        due.is("FULL", RingWars.FULL, -4);
+        due.by("The constants: `NO = Long.MIN_VALUE`: There is no such number.");
+        due.is("NO", RingWars.NO, Long.MIN_VALUE);
+    }
+
     private static void anEmptyObject() {
         due.by("An empty RING, no FIGHTERS.");
         RingWars x = new RingWars();
@@ -83,6 +96,20 @@ public final class EdgesOfFightersTest {
         due.is("clear()", x.clear(), 0);
         due.is("image()", x.image(), 0);
         due.is("an act of an empty cell", x.act(15, 1, 5), 20);
+    }
+
+    private static void physicsThatWere() {
+        due.by("PHYSICS: what 0 CELLS, 1 LIMIT, 2 MOST, 3 REACH becomes n: what it was.");
+        int[][] edges = {{16, 8, 32}, {100, 1, 150}, {4, 1, 8}, {32, 1, 32}};
+        RingWars x = new RingWars();
+        for (int what = 0; what < 4; what++) {
+            int[] told = edges[what];
+            due.is("physics(" + what + ", the least)", x.physics(what, told[1]), told[0]);
+            due.is("physics(" + what + ", the greatest)", x.physics(what, told[2]), told[1]);
+            due.is("physics(" + what + ", as it is)", x.physics(what, told[2]), told[2]);
+            due.is("count(" + what + ")", x.count(what), told[2]);
+        }
+        due.is("each alone", x.count(0) + " " + x.count(1) + " " + x.count(2) + " " + x.count(3), "32 150 8 32");
     }
 
     private static void textsOf150Bytes() {
@@ -517,6 +544,21 @@ public final class EdgesOfFightersTest {
         }
         due.is("from 2 on", x.load(0, 2, 1), 0);
         due.is("its order", Due.order(x, 0, 0), "2 3 4 0 1");
+    }
+
+    private static void loadsOfNumbers() {
+        due.by("KIND, MODE and NUMBER of A, of B (NUMBERS -99 .. 99)");
+        int[] numbers = {-100, -99, -1, 0, 1, 99, 100};
+        for (int a : numbers) {
+            for (int b : numbers) {
+                RingWars x = new RingWars();
+                boolean well = Math.abs(a) < 100 && Math.abs(b) < 100;
+                due.is(a + " and " + b, Due.loaded(x, 6, 3, a, 2, b), well ? 0 : RingWars.BAD);
+                if (well) {
+                    due.is("its order", Due.order(x, 0, 0), "6 3 " + a + " 2 " + b);
+                }
+            }
+        }
     }
 
     private static void loadsOfOrdersThatAreNone() {

@@ -14,6 +14,7 @@ public final class EdgesOfTheRingTest {
         writesBeyondReach();
         reachIsFromTheOrder();
         physicsChange();
+        modesFrom0To4();
         numbersAreRests();
         numbersStayRests();
         ownersOrNone();
@@ -31,6 +32,7 @@ public final class EdgesOfTheRingTest {
         zeros();
         skips();
         splitsAtMost();
+        withoutAWord();
         threadsQueue();
         due.end();
     }
@@ -254,6 +256,22 @@ public final class EdgesOfTheRingTest {
         RingWars y = ofCells(16);
         due.is("physics as they are", y.physics(0, 16), 16);
         due.is("an empty ring", Due.cell(y, 15), EMPTY);
+    }
+
+    private static void modesFrom0To4() {
+        due.by("each a MODE (0 .. 4) and a NUMBER");
+        for (int mode = -1; mode <= 5; mode++) {
+            boolean well = mode >= 0 && mode <= 4;
+            RingWars x = new RingWars();
+            due.is("A of MODE " + mode, Due.loaded(x, SKIP, mode, 1, 0, 1), well ? 0 : RingWars.BAD);
+            due.is("B of MODE " + mode, Due.loaded(x, SKIP, 0, 1, mode, 1), well ? 1 : RingWars.BAD);
+            if (well) {
+                x.set(0, 15);
+                x.set(1, 0);
+                due.is("A in its cell", x.cell(15, 1), mode);
+                due.is("B in its cell", x.cell(0, 3), mode);
+            }
+        }
     }
 
     private static void numbersAreRests() {
@@ -553,6 +571,22 @@ public final class EdgesOfTheRingTest {
         x.run(1);
         due.is("no third", Due.threads(x, 0), "6 8");
         due.is("of MODE 4: c", on(8, 7, "split #5"), "0 7");
+    }
+
+    private static void withoutAWord() {
+        due.by("Without a word: on at c and 1.");
+        String[] texts = {"copy .0 .1", "copy #1 #1", "add .0 .1", "add #1 #1", "copy .0 .8"};
+        for (int cells : SIZES) {
+            for (String text : texts) {
+                due.is(text + " at the last of " + cells, on(cells, cells - 1, text), "0");
+                due.is(text + " at the first of " + cells, on(cells, 0, text), "1");
+            }
+        }
+        RingWars x = Due.with("copy .0 .4");
+        x.physics(3, 1);
+        x.set(0, 15);
+        x.run(1);
+        due.is("behind a write that does nothing, too", Due.threads(x, 0), "0");
     }
 
     private static void threadsQueue() {
