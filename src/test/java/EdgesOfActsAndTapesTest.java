@@ -13,6 +13,7 @@ public final class EdgesOfActsAndTapesTest {
     public static void main(String[] args) {
         imagesOfNoneAndOfTheLast();
         imagesHoldAll();
+        imagesOfTheDead();
         imagesNextTurn();
         backToNone();
         backInOtherCells();
@@ -86,6 +87,39 @@ public final class EdgesOfActsAndTapesTest {
             due.is("turns", x.back(), 25);
             due.is("all that there was", Due.war(x), then);
         }
+    }
+
+    private static void imagesOfTheDead() {
+        due.by("HEAT, who died");
+        RingWars x = Due.with("jump .0", "die", "jump .1;add #1 .1;die");
+        x.set(0, 0);
+        x.set(1, 3);
+        x.set(2, 6);
+        x.set(1, 12);
+        x.run(4);
+        x.image();
+        x.clear();
+        for (int side = 0; side < 4; side++) {
+            x.set(0, side);
+        }
+        x.run(9);
+        due.is("nobody died in another war", x.died(1, 0) + " " + x.died(3, 1), "-5 -5");
+        due.is("turns", x.back(), 4);
+        int[] died = {-5, 2, -5, 4};
+        int[] killers = {-5, 1, -5, 3};
+        for (int side = 0; side < 4; side++) {
+            due.is("when " + side + " died", x.died(side, 0), died[side]);
+            due.is("who killed " + side, x.died(side, 1), killers[side]);
+        }
+        due.is("who has threads", x.state(3), 5);
+        x.run(150);
+        due.is("who died since", x.died(2, 0), 8);
+        due.is("and by whom", x.died(2, 1), 2);
+        due.is("heat since", x.cell(8, 6), 1);
+        x.back();
+        due.is("alive again", x.died(2, 0), -5);
+        due.is("by nobody", x.died(2, 1), -5);
+        due.is("heat as then", x.cell(8, 6), 0);
     }
 
     private static void imagesNextTurn() {

@@ -34,6 +34,7 @@ public final class EdgesOfDuelsTest {
         ladderOfNoSuchNumber();
         ringsOfFewerThanThree();
         ringsAsARow();
+        ringsThatAreNone();
         unlikeItself();
         unlikeOfNoSuchNumber();
         gardensOfTwoToFour();
@@ -47,6 +48,7 @@ public final class EdgesOfDuelsTest {
         roundsOfTheDead();
         roundsOfNoSuchNumber();
         sameWithinTheLimit();
+        sameByEveryCell();
         sameBeyondReach();
         sameByTheLastWrite();
         sameOfTheDead();
@@ -396,6 +398,13 @@ public final class EdgesOfDuelsTest {
         for (int i = 0; i < 8; i++) {
             due.is("two sorts: " + i, y.ladder(i), want[i]);
         }
+        // all wars are even: the longer ones have fewer of them, by one
+        RingWars w = Due.with("jump .0;die;die", "jump .0;die", "jump .0");
+        for (int i = 0; i < 3; i++) {
+            due.is("one more each: " + i, w.ladder(i), 2 - i);
+        }
+        RingWars v = Due.with("jump .0", "copy .5 .8;jump .0", "jump .0");
+        due.is("the one that beats 0", v.ladder(0), 1);
         RingWars z = Due.with(POOL[7], POOL[6], POOL[5], POOL[4], POOL[3], POOL[2], POOL[1], POOL[0]);
         z.physics(0, 11);
         int seen = 0;
@@ -466,6 +475,19 @@ public final class EdgesOfDuelsTest {
         int[] want = ringByTables(z, 8);
         for (int i = 0; i < 3; i++) {
             due.is("the first of several: " + i, z.ring(i), want[i]);
+        }
+    }
+
+    private static void ringsThatAreNone() {
+        due.by("of which f BEATS g, g h, h f");
+        String[][] none = {{"jump .0", "jump .0", "jump .0"}, {"jump .0", "jump .1;jump .-1", "jump .0", "die", "die"},
+            {"jump .1;die", "die", "jump .1;jump .1;die", "die", "die", "die", "die", "die"},
+            {"die", "jump .1;die", "jump .1;jump .1;die", "jump .0", "jump .1;die", "die", "jump .0", "jump .1;die"}};
+        for (String[] texts : none) {
+            RingWars x = Due.with(texts);
+            for (int i = 0; i < 3; i++) {
+                due.is("ring(" + i + ") of " + texts.length, x.ring(i), NOBODY);
+            }
         }
     }
 
@@ -750,6 +772,17 @@ public final class EdgesOfDuelsTest {
             due.is("the other way", x.same(1, 0), limit >= 4 ? 4 : NOBODY);
             due.is("no writes", x.same(1, 2), NOBODY);
             due.is("itself", x.same(0, 0), NOBODY);
+        }
+    }
+
+    private static void sameByEveryCell() {
+        due.by("in which one writes and the other doesn't");
+        for (int cell = 0; cell < 16; cell++) {
+            RingWars x = Due.with("add #1 ." + cell + ";jump .0", "jump .1;jump .0", "add #1 ." + (cell + 1) + ";jump .0");
+            due.is("a write to " + cell, x.same(0, 1), 1);
+            due.is("the other's", x.same(1, 0), 1);
+            due.is("and to the next", x.same(0, 2), 1);
+            due.is("like writes", x.same(0, 0), NOBODY);
         }
     }
 

@@ -198,6 +198,13 @@ public final class EdgesOfFightersTest {
             due.is("its order", Due.order(x, 0, 0), kind + (ADDRESSES[kind] > 0 ? " 1 7" : " 4 0")
                 + (ADDRESSES[kind] > 1 ? " 1 7" : " 4 0"));
         }
+        // nothing is left of a text that was none
+        RingWars y = new RingWars();
+        due.is("a fault behind much", Due.fighter(y, "b:copy <5 >7;b:"), FAULT - 13);
+        due.is("a fault in a name", Due.fighter(y, "copy <5 >7;jump .f"), FAULT - 17);
+        due.is("a jump behind them", Due.fighter(y, "jump @3;die;b:die"), 0);
+        due.is("B is MODE 4, 0", Due.order(y, 0, 0), "3 1 3 4 0");
+        due.is("both are", Due.order(y, 0, 1), "0 4 0 4 0");
     }
 
     private static void blanks() {

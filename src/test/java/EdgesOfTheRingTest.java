@@ -549,6 +549,13 @@ public final class EdgesOfTheRingTest {
         due.is("one with itself by MODE 4 of B", on(8, 6, "skip .0 #5"), "0");
         due.is("itself and another", on(8, 6, "skip .0 .1"), "7");
         due.is("alike by rests", on(8, 6, "skip .1 .2;jump .-1;jump .7"), "0");
+        for (int item = 0; item < 5; item++) {
+            for (int more = 0; more <= 1; more++) {
+                int[] items = {SKIP, 0, 1, 0, 2, ADD, 2, 3, 1, 4, ADD, 2, 3, 1, 4};
+                items[10 + item] += more;
+                due.is("item " + item + " more by " + more, Due.threads(stepped(8, 6, items), 0), more == 0 ? "0" : "7");
+            }
+        }
     }
 
     private static void splitsAtMost() {

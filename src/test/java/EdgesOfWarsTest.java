@@ -171,6 +171,18 @@ public final class EdgesOfWarsTest {
             due.is("over", x.state(1), 1);
             due.is("both live", x.state(3), 3);
         }
+        // an image of more turns than LIMIT is by now
+        for (int limit = 8; limit <= 11; limit++) {
+            RingWars x = Due.with("jump .0");
+            x.set(0, 0);
+            x.run(9);
+            x.image();
+            x.clear();
+            x.physics(1, limit);
+            due.is("turns", x.back(), 9);
+            due.is("over with LIMIT " + limit, x.state(1), limit <= 9 ? 1 : 0);
+            due.is("turns more", x.run(150), limit <= 9 ? RingWars.STATE : limit - 9);
+        }
     }
 
     private static void deathsFromTurn1ToTheLimit() {

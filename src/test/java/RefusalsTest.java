@@ -89,6 +89,12 @@ public final class RefusalsTest {
         return x;
     }
 
+    private static RingWars withOneSide() {
+        RingWars x = atPeace();
+        x.set(1, 7);
+        return x;
+    }
+
     /** Eight fighters, four sides that did no turn, and a text of 150 bytes. */
     private static RingWars whenFull() {
         RingWars x = atPeace();
@@ -215,6 +221,7 @@ public final class RefusalsTest {
             refused(RefusalsTest::atWar, BAD, "physics(" + what + ", MAX) at war", x -> x.physics(what, MAX));
             refused(RefusalsTest::atWar, STATE, "physics(" + what + ", 8) at war", x -> x.physics(what, 8));
             refused(RefusalsTest::whenFull, STATE, "physics(" + what + ", 8) when set", x -> x.physics(what, 8));
+            refused(RefusalsTest::withOneSide, STATE, "physics(" + what + ", 8) with one side", x -> x.physics(what, 8));
             refused(RefusalsTest::whenOver, STATE, "physics(" + what + ", 8) when over", x -> x.physics(what, 8));
         }
     }
