@@ -326,7 +326,7 @@ public final class EdgesOfDuelsTest {
         due.is("B of a jump does nothing", x.tune(0, 0, 1, 1), 0);
         RingWars y = ring(15, 100, "die;die;die;die;die;die;die;jump .0", "die;die;die;die;die;die;die;die");
         due.is("over no distances", y.tune(0, 7, 0, 1), 0);
-        // 1 and 2 lead to the same jump, 0 to a death
+        // 2 and 3 lead on to the jump that lives, 0 and 1 to a death
         RingWars z = Due.with("jump @1;add .0 .0;die;jump .1;jump .0", "jump .0");
         due.is("not 0", z.tune(0, 1, 1, 1), 2);
         due.is("its number stays", z.of(0, 1, 4), 0);
