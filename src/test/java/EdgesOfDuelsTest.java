@@ -701,8 +701,10 @@ public final class EdgesOfDuelsTest {
             + "order) behind LIMIT turns is as it was p turns ahead (-5: none; also if it died).");
         String[] texts = {"copy .0 .1", "jump .1;jump .-1", "add #1 .1;jump .-1", "split .1;jump .0;jump .0",
             "split .2;jump .0;jump .0", "split .0;jump .-1", "jump .1;jump .1;jump .0", "add #2 .2;jump .-1;die",
-            "add #4 #0;jump .-1", "copy #3 .2;jump .-1", "die", "jump .1"};
-        int[] limits = {1, 2, 3, 9, 16, 17, 18, 40};
+            "add #4 #0;jump .-1", "copy #3 .2;jump .-1", "die", "jump .1",
+            // one thread at 4 behind turns 4 and 8, and a second one dead ahead of each, elsewhere
+            "split .3;jump .1;jump .2;die;split .3;jump .1;jump .-2;die"};
+        int[] limits = {1, 2, 3, 8, 9, 16, 17, 18, 40};
         for (String text : texts) {
             for (int limit : limits) {
                 String last = behind(8, text, limit);
@@ -754,6 +756,8 @@ public final class EdgesOfDuelsTest {
         due.is("dead in turn 1", x.round(0), NOBODY);
         due.is("dead in turn 3", x.round(1), NOBODY);
         due.is("one of its threads is dead", x.round(2), 1);
+        RingWars y = ring(16, 8, "split .3;jump .1;jump .2;die;split .3;jump .1;jump .-2;die");
+        due.is("one of its threads is dead each time", y.round(0), 4);
         x.physics(1, 3);
         due.is("dead in turn LIMIT", x.round(1), NOBODY);
         x.physics(1, 1);

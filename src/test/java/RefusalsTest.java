@@ -2,7 +2,7 @@ import java.util.function.Supplier;
 import java.util.function.ToLongFunction;
 
 /**
- * Every refusal that a promise names, in every state in which it can be had: what is answered, which of several is
+ * Every refusal that a promise names, in a state or some in which it can be had: what is answered, which of several is
  * named, and that nothing is changed by it: two objects that were made alike are looked at all over, of which one was
  * asked in between.
  */
